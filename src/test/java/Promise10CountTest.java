@@ -13,7 +13,7 @@ public final class Promise10CountTest {
     private static void isEmptyWithNothingBegun() {
         PhaserYard yard = Script.yard("ADD 1");
         for (int what = 0; what <= 147; what++) {
-            if (isKnown(what)) {
+            if (Script.isCount(what)) {
                 boolean isTask = what >= 20 && what <= 22 || what >= 40;
                 Check.same("count(" + what + ") with nothing begun", isTask ? -1 : 0, yard.count(what));
             }
@@ -93,7 +93,7 @@ public final class Promise10CountTest {
         for (int round = 0; round < 2; round++) {
             for (int what = -3; what <= 300; what++) {
                 int asked = what;
-                if (!isKnown(what)) {
+                if (!Script.isCount(what)) {
                     refuses(yard, asked);
                 }
             }
@@ -105,10 +105,5 @@ public final class Promise10CountTest {
 
     private static void refuses(PhaserYard yard, int what) {
         Check.refuses("count(" + what + ")", IllegalArgumentException.class, () -> yard.count(what));
-    }
-
-    private static boolean isKnown(int what) {
-        return what >= 0 && what <= 10 || what >= 20 && what <= 22 || what >= 30 && what <= 32
-            || what >= 40 && what <= 87 || what >= 100 && what <= 147;
     }
 }

@@ -54,6 +54,11 @@ final class Script {
         return yard.count(7);
     }
 
+    static boolean isCount(int what) {
+        return what >= 0 && what <= 10 || what >= 20 && what <= 22 || what >= 30 && what <= 32
+            || what >= 40 && what <= 87 || what >= 100 && what <= 147;
+    }
+
     static void isState(String what, PhaserYard yard, int t, int state) {
         Check.same(what + ": state of task " + t, state, yard.task(t, 0));
     }
