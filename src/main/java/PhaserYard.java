@@ -39,6 +39,10 @@ public final class PhaserYard {
     private static final int[] GREATEST_A = {
         HIGHEST, HIGHEST, 7, 7, 63, HIGHEST, HIGHEST, 3, 3, 31, 7, 1, HIGHEST, 99, HIGHEST, 15, 15};
 
+    /** KINDS and MODES are the last digits, to these bases, of the a of OPEN and JOIN. */
+    private static final int KINDS = 4;
+    private static final int MODES = 4;
+
     private static final int KIND_SUM = 0;
     private static final int KIND_LEAST = 1;
     private static final int KIND_GREATEST = 2;
@@ -64,15 +68,14 @@ public final class PhaserYard {
     private static final int DONE = 3;
 
     /**
-     * What the next STEP of a TASK does. It is kept with the TASK and not read from the BODY again,
-     * since the BODY may have been changed while the TASK waited.
+     * What the next STEP of a TASK does. What was begun is kept with the TASK and not read from the
+     * BODY again, since the BODY may have been changed while the TASK waited.
      */
     private static final int DUE_PLACE = 0;
-    private static final int DUE_START = 1;
-    private static final int DUE_GET = 2;
-    private static final int DUE_NEXT = 3;
-    private static final int DUE_END_BY_CLOSE = 4;
-    private static final int DUE_END = 5;
+    private static final int DUE_GET = 1;
+    private static final int DUE_NEXT = 2;
+    private static final int DUE_END_BY_CLOSE = 3;
+    private static final int DUE_END = 4;
 
     private final Body[] bodies;
     private final Run current;
@@ -281,7 +284,7 @@ public final class PhaserYard {
             seen[t] = phase;
         }
 
-        void hand(int from, int to) {
+        void copy(int from, int to) {
             modes[to] = modes[from];
             sent[to] = sent[from];
             seen[to] = seen[from];
@@ -311,11 +314,11 @@ public final class PhaserYard {
 
         private void raisePhase() {
             boolean isAny = false;
-            int least = HIGHEST;
+            int least = 0;
             for (int t = 0; t < MOST_TASKS; t++) {
-                if ((modes[t] & MODE_SIGNAL) != 0) {
+                if ((modes[t] & MODE_SIGNAL) != 0 && (!isAny || sent[t] < least)) {
                     isAny = true;
-                    least = Math.min(least, sent[t]);
+                    least = sent[t];
                 }
             }
             if (isAny && least > phase) {
@@ -334,7 +337,7 @@ public final class PhaserYard {
         int place;
         int state;
         int due;
-        /** The FUTURE of DUE_START and DUE_GET. */
+        /** The FUTURE of a GET that waits, or of a TASK by WHEN that waits for its first PLACE. */
         int awaited;
 
         Task(int number, Scope home) {
@@ -521,9 +524,17 @@ public final class PhaserYard {
 
         private void step(Worker worker) {
             Task task = tasks[worker.hand];
-            int code = goOn(worker, task);
+            int code = NO_CODE;
+            if (task.due != DUE_PLACE) {
+                code = finishWait(task);
+            } else if (task.place < bodies[task.bodyNumber].size) {
+                code = instruct(worker, task, bodies[task.bodyNumber]);
+            } else {
+                endInnermost(task);
+            }
             if (code != NO_CODE) {
-                raise(task, code);
+                task.innerScope().note(code);
+                endInnermost(task);
             }
             if (task.state == WAITS || task.state == DONE) {
                 worker.hand = NO_TASK;
@@ -533,52 +544,22 @@ public final class PhaserYard {
         }
 
         /** Here and below, the answer of what a STEP does is the code that it THROWS, or NO_CODE. */
-        private int goOn(Worker worker, Task task) {
+        private int finishWait(Task task) {
             switch (task.due) {
                 case DUE_GET:
                     return get(task, task.awaited);
                 case DUE_NEXT:
                     return passPhases(task);
-                case DUE_END_BY_CLOSE:
-                case DUE_END:
+                default:
                     return endScope(task);
-                default:
-                    break;
-            }
-            Body body = bodies[task.bodyNumber];
-            if (task.place >= body.size) {
-                endBody(task);
-                return NO_CODE;
-            }
-            return instruct(worker, task, body.ops[task.place], body.operands[task.place]);
-        }
-
-        private int instruct(Worker worker, Task task, int op, int a) {
-            switch (op) {
-                case CLOSE:
-                    return close(task);
-                case GET:
-                    return get(task, a);
-                case NEXT:
-                    signalAll(task);
-                    return passPhases(task);
-                case THROW:
-                    return a;
-                case IF:
-                    task.place = task.sum != 0 ? a : task.place + 1;
-                    return NO_CODE;
-                case GOTO:
-                    task.place = a;
-                    return NO_CODE;
-                default:
-                    return instructInOrder(worker, task, op, a);
             }
         }
 
-        /** The INSTRUCTIONS that neither WAIT nor lead anywhere but to the next PLACE. */
-        private int instructInOrder(Worker worker, Task task, int op, int a) {
+        private int instruct(Worker worker, Task task, Body body) {
+            int a = body.operands[task.place];
+            int next = task.place + 1;
             int code = NO_CODE;
-            switch (op) {
+            switch (body.ops[task.place]) {
                 case ADD:
                     task.sum += a;
                     break;
@@ -586,34 +567,50 @@ public final class PhaserYard {
                     task.sum *= a;
                     break;
                 case ASYNC:
-                case HANDS:
-                    code = spawn(worker, task, a, op == HANDS);
+                    code = spawn(worker, task, a, false);
                     break;
-                case WHEN:
-                    code = spawnWaiting(task, a / FUTURES, a % FUTURES);
+                case HANDS:
+                    code = spawn(worker, task, a, true);
                     break;
                 case OPEN:
-                    code = openScope(task, a % 4, a / 4);
+                    code = openScope(task, a % KINDS, a / KINDS);
                     break;
+                case CLOSE:
+                    return close(task);
                 case GIVE:
                     task.innerScope().give(task.sum);
                     break;
                 case PUT:
                     code = put(a, task.sum);
                     break;
+                case GET:
+                    return get(task, a);
+                case WHEN:
+                    code = spawnWaiting(task, a / FUTURES, a % FUTURES);
+                    break;
                 case JOIN:
-                    code = join(task, phasers[a / 4], a % 4);
+                    code = join(task, phasers[a / MODES], a % MODES);
                     break;
                 case LEAVE:
                     code = leave(task, phasers[a]);
                     break;
-                default:
+                case NEXT:
+                    signalAll(task);
+                    return passPhases(task);
+                case THROW:
+                    return a;
+                case SAY:
                     say(task.sum);
                     break;
+                case IF:
+                    next = task.sum != 0 ? a : next;
+                    break;
+                case GOTO:
+                default:
+                    next = a;
+                    break;
             }
-            if (code == NO_CODE) {
-                task.place++;
-            }
+            task.place = code == NO_CODE ? next : task.place;
             return code;
         }
 
@@ -624,7 +621,7 @@ public final class PhaserYard {
             Task made = makeTask(maker, b);
             if (isRegisteredToo) {
                 for (int p = 0; p < PHASERS; p++) {
-                    phasers[p].hand(maker.number, made.number);
+                    phasers[p].copy(maker.number, made.number);
                 }
             }
             if (isNewFirst) {
@@ -643,7 +640,7 @@ public final class PhaserYard {
             if (taskCount >= MOST_TASKS) {
                 return CODE_TOO_MANY;
             }
-            makeTask(maker, b).waitFor(DUE_START, future);
+            makeTask(maker, b).waitFor(DUE_PLACE, future);
             return NO_CODE;
         }
 
@@ -766,16 +763,8 @@ public final class PhaserYard {
             return NO_CODE;
         }
 
-        private void endBody(Task task) {
-            if (task.ownOpen > 0) {
-                task.due = DUE_END;
-            } else {
-                finish(task);
-            }
-        }
-
-        private void raise(Task task, int code) {
-            task.innerScope().note(code);
+        /** The END of the BODY, or of what a code broke off: of the latest own SCOPE first, else of the TASK. */
+        private void endInnermost(Task task) {
             if (task.ownOpen > 0) {
                 task.due = DUE_END;
             } else {
@@ -802,7 +791,7 @@ public final class PhaserYard {
 
         private boolean isWaitOver(Task task) {
             switch (task.due) {
-                case DUE_START:
+                case DUE_PLACE:
                 case DUE_GET:
                     return isPut[task.awaited];
                 case DUE_NEXT:

@@ -26,7 +26,7 @@ public final class Promise08TaskTest {
     }
 
     private static void tellsWhatItHas() {
-        PhaserYard yard = Script.yard("JOIN 1, JOIN 6, ASYNC 5, OPEN 0, OPEN 0, ADD 4, LEAVE 0", "", "", "", "", "JOIN 3");
+        PhaserYard yard = Script.yard("JOIN 1, JOIN 6, ASYNC 5, OPEN 0, OPEN 0, ADD 4, LEAVE 0");
         yard.begin(0, 5, 1, 0);
         yard.run(8);
         Check.same("sum", 9, yard.task(0, 1));

@@ -39,7 +39,8 @@ public final class Promise10CountTest {
     }
 
     private static void tellsOfCodesAndPhases() {
-        PhaserYard yard = Script.yard("ASYNC 1, ASYNC 2, ASYNC 1, JOIN 1, JOIN 5, NEXT, LEAVE 0, NEXT", "THROW 60", "THROW 30");
+        PhaserYard yard = Script.yard("ASYNC 1, ASYNC 2, ASYNC 1, JOIN 1, JOIN 5, NEXT, LEAVE 0, NEXT",
+            "THROW 60", "THROW 30");
         yard.begin(0, 0, 1, 0);
         yard.run(9);
         Check.same("no code yet", 0, yard.count(6));

@@ -77,7 +77,8 @@ public final class TermsPhasersTest {
     }
 
     private static void leavingRaisesThePhase() {
-        PhaserYard yard = Script.yard("JOIN 1, HANDS 1, NEXT, NEXT, NEXT, GET 0", "LEAVE 0, PUT 0", "JOIN 3, HANDS 7, NEXT");
+        PhaserYard yard = Script.yard("JOIN 1, HANDS 1, NEXT, NEXT, NEXT, GET 0", "LEAVE 0, PUT 0",
+            "JOIN 3, HANDS 7, NEXT");
         yard.begin(0, 0, 1, 0);
         yard.run(7);
         Check.same("phase while one stays behind", 0, yard.count(8));
@@ -134,13 +135,13 @@ public final class TermsPhasersTest {
         Check.refuses("all wait", UnsupportedOperationException.class, () -> sent.run(200));
         Check.same("the second one has sent 1", 1, sent.count(8));
         Check.same("the second one has the mode", 1, sent.task(2, 5));
-        PhaserYard seen = Script.yard("JOIN 2, WHEN 4, ASYNC 2, GET 1, HANDS 3", "", "JOIN 1, NEXT, NEXT, PUT 1, PUT 0",
-            "NEXT, SAY, NEXT, SAY, NEXT");
+        PhaserYard seen = Script.yard("JOIN 2, ASYNC 1, GET 1, NEXT, HANDS 2", "JOIN 1, NEXT, NEXT, PUT 1",
+            "NEXT, SAY, NEXT, SAY");
         seen.begin(0, 0, 1, 0);
-        Check.refuses("the third next waits", UnsupportedOperationException.class, () -> seen.run(200));
-        Script.says("it had seen none of two phases", seen, 0, 0);
-        Check.same("place of the third next", 4, seen.task(3, 2));
-        Check.same("it has the mode", 2, seen.task(3, 5));
+        Check.refuses("the second next waits", UnsupportedOperationException.class, () -> seen.run(200));
+        Script.says("it had seen one of two phases", seen, 0);
+        Check.same("place of the second next", 2, seen.task(2, 2));
+        Check.same("it has the mode", 2, seen.task(2, 5));
     }
 
     private static void asyncHandsNothing() {

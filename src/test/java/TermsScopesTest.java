@@ -19,7 +19,8 @@ public final class TermsScopesTest {
             Check.same("kind " + kind, due[kind],
                 Script.resultOf(2, "OPEN " + kind + ", ASYNC 1, ASYNC 2, CLOSE", "ADD 3, GIVE", "ADD 5, GIVE"));
         }
-        Check.same("a sum wraps", -2 + Integer.MAX_VALUE, Script.resultOf(Integer.MAX_VALUE, "OPEN 0, GIVE, GIVE, CLOSE"));
+        Check.same("a sum wraps", Integer.MAX_VALUE - 2,
+            Script.resultOf(Integer.MAX_VALUE, "OPEN 0, GIVE, GIVE, CLOSE"));
         Check.same("a product wraps", 65536, Script.resultOf(65536, "OPEN 3, GIVE, GIVE, CLOSE"));
     }
 
@@ -34,7 +35,8 @@ public final class TermsScopesTest {
 
     private static void givesToTheInnerScope() {
         Check.same("to its latest own one", 4 + 4, Script.resultOf(4, "OPEN 2, OPEN 0, GIVE, CLOSE, GIVE, CLOSE"));
-        Check.same("to the outer one after a close", 1, Script.resultOf(1, "OPEN 1, OPEN 0, CLOSE, GIVE, ADD 8, CLOSE"));
+        Check.same("to the outer one after a close", 1,
+            Script.resultOf(1, "OPEN 1, OPEN 0, CLOSE, GIVE, ADD 8, CLOSE"));
         Check.same("a child gives to its home", 3 + 4, Script.resultOf(3, "OPEN 0, ASYNC 1, CLOSE", "ADD 1, GIVE"));
         Check.same("a child with an own one gives to that", 3,
             Script.resultOf(3, "OPEN 0, ASYNC 1, CLOSE", "OPEN 0, GIVE, CLOSE"));

@@ -60,7 +60,8 @@ public final class TermsWorkersTest {
 
     private static void takesTheNewOneByPolicy() {
         for (String spawn : new String[] {"ASYNC 1", "HANDS 1"}) {
-            PhaserYard yard = Script.yard(spawn + ", " + spawn + ", SAY", spawn.replace('1', '2') + ", ADD 1, SAY", "ADD 5, SAY");
+            PhaserYard yard = Script.yard(spawn + ", " + spawn + ", SAY",
+                spawn.replace('1', '2') + ", ADD 1, SAY", "ADD 5, SAY");
             yard.begin(0, 0, 1, 1);
             yard.run(2);
             Check.same(spawn + ": the new one is at hand", 1, yard.count(20));
@@ -89,7 +90,8 @@ public final class TermsWorkersTest {
     }
 
     private static void wakesByNumber() {
-        PhaserYard yard = Script.yard("WHEN 4, ASYNC 2, WHEN 4, GET 1, ASYNC 7, PUT 0, GOTO 6", "ADD 1", "PUT 1, GET 0");
+        PhaserYard yard = Script.yard("WHEN 4, ASYNC 2, WHEN 4, GET 1, ASYNC 7, PUT 0, GOTO 6",
+            "ADD 1", "PUT 1, GET 0");
         yard.begin(0, 0, 1, 0);
         yard.run(11);
         Check.same("one is there before the put", 1, yard.count(30));
