@@ -39,14 +39,15 @@ public final class RandomRunsTest {
         int ticks = 1 + random.nextInt(120);
         int last = 0;
         for (int i = 0; i < ticks && last == 0; i++) {
-            last = run(fresh, 1);
+            last = State.run(fresh, 1);
             looksSound("seed " + seed + " tick " + i, fresh);
         }
-        Check.same("seed " + seed + ": run in one call", last, run(used, ticks));
-        String whole = textOf(used);
-        Check.holds("seed " + seed + ": " + textOf(fresh) + " but in one call " + whole, textOf(fresh).equals(whole));
+        Check.same("seed " + seed + ": run in one call", last, State.run(used, ticks));
+        String single = State.of(fresh);
+        String whole = State.of(used);
+        Check.holds("seed " + seed + ": " + single + " but in one call " + whole, single.equals(whole));
         ended += last == 1 ? 1 : 0;
-        stuck += last == -1 ? 1 : 0;
+        stuck += last == State.STUCK ? 1 : 0;
     }
 
     private static void writeBodies(Random random, PhaserYard yard) {
@@ -58,14 +59,6 @@ public final class RandomRunsTest {
                 int least = op == 13 ? 10 : 0;
                 yard.add(b, op, least + random.nextInt(GREATEST_A[op] - least + 1));
             }
-        }
-    }
-
-    private static int run(PhaserYard yard, int n) {
-        try {
-            return yard.run(n);
-        } catch (UnsupportedOperationException e) {
-            return -1;
         }
     }
 
@@ -97,45 +90,6 @@ public final class RandomRunsTest {
             int t = yard.count(first + k);
             Check.holds(what + ": count(" + (first + k) + ") is " + t,
                 k < size ? t >= 0 && yard.task(t, 0) == Script.IN_DEQUE : t == -1);
-        }
-    }
-
-    private static String textOf(PhaserYard yard) {
-        StringBuilder text = new StringBuilder();
-        for (int what = 0; what <= 147; what++) {
-            if (Script.isCount(what)) {
-                text.append(yard.count(what)).append(' ');
-            }
-        }
-        for (int t = 0; t < yard.count(0); t++) {
-            for (int what = 0; what <= 6; what++) {
-                text.append(yard.task(t, what)).append(' ');
-            }
-        }
-        for (int k = 0; k < Math.min(40, yard.count(5)); k++) {
-            text.append(yard.said(k)).append(' ');
-        }
-        for (int f = 0; f < 4; f++) {
-            text.append(futureText(yard, f)).append(' ');
-        }
-        return text.append(resultText(yard)).toString();
-    }
-
-    private static String futureText(PhaserYard yard, int f) {
-        try {
-            return Integer.toString(yard.future(f));
-        } catch (IllegalStateException e) {
-            return "none";
-        }
-    }
-
-    private static String resultText(PhaserYard yard) {
-        try {
-            return Integer.toString(yard.result());
-        } catch (IllegalStateException e) {
-            return "not over";
-        } catch (ArithmeticException e) {
-            return "a code";
         }
     }
 }

@@ -1,3 +1,4 @@
+import java.util.Collections;
 import java.util.List;
 
 /** Writes BODIES by the names of the document's INSTRUCTIONS: "OPEN 0, ASYNC 1, CLOSE". */
@@ -36,6 +37,32 @@ final class Script {
             }
             yard.add(b, op, words.length > 1 ? Integer.parseInt(words[1]) : 0);
         }
+    }
+
+    /** A new object with these BODIES and a RUN of BODY 0. */
+    static PhaserYard begun(int sum, int workers, int policy, String... bodies) {
+        PhaserYard yard = yard(bodies);
+        yard.begin(0, sum, workers, policy);
+        return yard;
+    }
+
+    /** Such a RUN on one WORKER with POLICY 0, after so many TICKS, or fewer if it is OVER or STUCK then. */
+    static PhaserYard ran(int ticks, int sum, String... bodies) {
+        PhaserYard yard = begun(sum, 1, 0, bodies);
+        runOn(yard, ticks);
+        return yard;
+    }
+
+    /** As many TICKS more, in calls of at most 200, till it is OVER or STUCK. */
+    static void runOn(PhaserYard yard, int ticks) {
+        int last = 0;
+        for (int left = ticks; left > 0 && last == 0; left -= 200) {
+            last = State.run(yard, Math.min(200, left));
+        }
+    }
+
+    static String repeated(String instruction, int times) {
+        return String.join(", ", Collections.nCopies(times, instruction));
     }
 
     /** BODY 0 alone on one WORKER till it is OVER: its result. */
