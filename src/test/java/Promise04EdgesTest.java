@@ -10,6 +10,7 @@ public final class Promise04EdgesTest {
         refusesTheNextOnBothSides();
         beginsAnewAfterAFullRun();
         beginsAnewAfterEveryEnd();
+        beginsAnewWithEmptyScopes();
         Check.end();
     }
 
@@ -83,6 +84,16 @@ public final class Promise04EdgesTest {
             Check.same("after a run of body " + before, 1, yard.run(3));
             Check.same("its result", 6, yard.result());
         }
+    }
+
+    private static void beginsAnewWithEmptyScopes() {
+        PhaserYard yard = Script.yard("OPEN 0, ASYNC 1, OPEN 0, ASYNC 1, OPEN 0, ASYNC 1, CLOSE", "GET 0",
+            "OPEN 0, OPEN 0, OPEN 0, CLOSE, CLOSE, CLOSE");
+        yard.begin(0, 5, 1, 0);
+        Check.same("three scopes with a task in each: run(7)", 0, yard.run(7));
+        yard.begin(2, 5, 1, 0);
+        Check.same("the next run waits for none of these", 1, yard.run(200));
+        Check.same("its result", 5, yard.result());
     }
 
     private static void refuses(int b, int workers, int policy) {

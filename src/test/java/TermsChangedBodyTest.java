@@ -3,6 +3,9 @@ public final class TermsChangedBodyTest {
     public static void main(String[] args) {
         closeGoesOnBehindIt();
         endOfTheBodyGoesOnThere();
+        closeInABodyThatIsEmptyThen();
+        closeAtTheLastPlace();
+        handlerInAnotherBody();
         getIsDone();
         nextIsDone();
         Check.end();
@@ -18,6 +21,30 @@ public final class TermsChangedBodyTest {
         Check.same("over", 1, yard.run(200));
         Script.says("it goes on behind the close", yard);
         Check.same("result", 1 + 2 + 50, yard.result());
+    }
+
+    private static void closeInABodyThatIsEmptyThen() {
+        PhaserYard yard = Script.ran(5, 1, "OPEN 0, ASYNC 1, CLOSE, THROW 10", "ADD 1, GIVE");
+        Script.isState("at its close", yard, 0, Script.WAITS);
+        yard.body(0);
+        Check.same("over", 1, yard.run(200));
+        Check.same("the total came to the sum", 1 + 2, yard.result());
+        Check.same("its end is behind the close that was", 3, yard.task(0, 2));
+    }
+
+    private static void closeAtTheLastPlace() {
+        PhaserYard yard = Script.ran(200, 1, "OPEN 0, GIVE, " + Script.repeated("ADD 1", 13) + ", CLOSE");
+        Check.same("its end is behind the last place", 16, yard.task(0, 2));
+        Check.same("the total came to the sum", 14 + 1, yard.result());
+    }
+
+    private static void handlerInAnotherBody() {
+        PhaserYard yard = Script.ran(5, 1, "OPEN 16, ASYNC 1, CLOSE, SAY, SAY", "THROW 20");
+        Script.isState("at its close", yard, 0, Script.WAITS);
+        yard.body(0);
+        Script.write(yard, 0, Script.repeated("THROW 30", 4) + ", ADD 7");
+        Check.same("over", 1, yard.run(200));
+        Check.same("it goes on at the handler's place", 27, yard.result());
     }
 
     private static void endOfTheBodyGoesOnThere() {
