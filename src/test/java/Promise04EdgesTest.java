@@ -61,7 +61,8 @@ public final class Promise04EdgesTest {
     }
 
     private static void beginsAnewAfterAFullRun() {
-        String[] bodies = {"JOIN 3, JOIN 7, PUT 0, PUT 1, PUT 2, PUT 3, OPEN 0, OPEN 0, OPEN 0, SAY, HANDS 1, ADD -1, IF 9",
+        String[] bodies = {
+            "JOIN 3, JOIN 7, PUT 0, PUT 1, PUT 2, PUT 3, OPEN 0, OPEN 0, OPEN 0, SAY, HANDS 1, ADD -1, IF 9",
             "NEXT, THROW 10"};
         PhaserYard yard = Script.begun(47, 3, 1, bodies);
         Script.runOn(yard, 1000);

@@ -34,7 +34,8 @@ public final class Promise10EdgesTest {
     }
 
     private static void answersNothingOfWorkersThatAreNotThere() {
-        PhaserYard yard = Script.begun(0, 3, 0, Script.repeated("ASYNC 1", 9) + ", GOTO 9", "ASYNC 2, GOTO 1", "GOTO 0");
+        PhaserYard yard = Script.begun(0, 3, 0, Script.repeated("ASYNC 1", 9) + ", GOTO 9",
+            "ASYNC 2, GOTO 1", "GOTO 0");
         yard.run(15);
         Check.holds("worker 1 has one at hand", yard.count(21) >= 0);
         Check.holds("worker 2 has one at hand", yard.count(22) >= 0);
@@ -82,7 +83,8 @@ public final class Promise10EdgesTest {
 
     /** TASK 47 is stolen by WORKER 1 and makes all the others ready there. */
     private static void answersWithAFullDequeOfWorkerOne() {
-        PhaserYard yard = Script.begun(46, 2, 0, "WHEN 8, ADD -1, IF 0, ASYNC 1, GET 0", "ADD 1, ADD 1, PUT 0, GOTO 3", "");
+        PhaserYard yard = Script.begun(46, 2, 0, "WHEN 8, ADD -1, IF 0, ASYNC 1, GET 0",
+            "ADD 1, ADD 1, PUT 0, GOTO 3", "");
         yard.run(142);
         Check.same("at hand of worker 1", 47, yard.count(21));
         Check.same("deque of worker 1", 0, yard.count(31));

@@ -45,7 +45,7 @@ final class Refusal {
     private static PhaserYard example() {
         return Script.yard("JOIN 3, OPEN 36, HANDS 1, WHEN 8, PUT 0, NEXT, SAY, CLOSE, GIVE", "ADD 2, NEXT, SAY, GIVE",
             "TIMES 5, GIVE, SAY", "GOTO 0", "", "ASYNC 2, THROW 77", "JOIN 2, PUT 1, SAY, NEXT",
-            "ADD 1, ADD 1, ADD 1, ADD 1, ADD 1, ADD 1, ADD 1, ADD 1, ADD 1, ADD 1, ADD 1, ADD 1, ADD 1, ADD 1, ADD 1, SAY");
+            Script.repeated("ADD 1", 15) + ", SAY");
     }
 
     /** The names in everywhere() tell the truth. */

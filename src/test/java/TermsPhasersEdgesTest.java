@@ -65,7 +65,8 @@ public final class TermsPhasersEdgesTest {
     }
 
     private static void phaseWhenTheLastSignalLeaves(int p) {
-        PhaserYard yard = Script.begun(0, 1, 0, "JOIN " + join(p, 2) + ", ASYNC 1, NEXT", "JOIN " + join(p, 1) + ", LEAVE " + p);
+        PhaserYard yard = Script.begun(0, 1, 0, "JOIN " + join(p, 2) + ", ASYNC 1, NEXT",
+            "JOIN " + join(p, 1) + ", LEAVE " + p);
         Check.refuses("the last signal left without next", UnsupportedOperationException.class, () -> yard.run(200));
         Check.same("the phase stays", 0, yard.count(8 + p));
         PhaserYard risen = Script.ran(200, 0, "JOIN " + join(p, 1) + ", NEXT, NEXT, LEAVE " + p);
@@ -73,7 +74,8 @@ public final class TermsPhasersEdgesTest {
     }
 
     private static void phaseRisesByMoreThanOne(int p) {
-        PhaserYard yard = Script.ran(7, 0, "JOIN " + join(p, 1) + ", HANDS 1, NEXT, NEXT, NEXT, GOTO 6, GET 0", "LEAVE " + p);
+        PhaserYard yard = Script.ran(7, 0, "JOIN " + join(p, 1) + ", HANDS 1, NEXT, NEXT, NEXT, GOTO 6, GET 0",
+            "LEAVE " + p);
         Check.same("held by one that sent nothing", 0, yard.count(8 + p));
         yard.run(3);
         Check.same("from 0 to 3 when it left", 3, yard.count(8 + p));

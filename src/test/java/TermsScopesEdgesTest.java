@@ -50,7 +50,8 @@ public final class TermsScopesEdgesTest {
     }
 
     private static void aScopeGoneMakesRoom() {
-        PhaserYard yard = Script.ran(200, 1, Script.repeated("OPEN 0", 3) + ", CLOSE, OPEN 0, CLOSE, CLOSE, OPEN 0, OPEN 0, SAY");
+        PhaserYard yard = Script.ran(200, 1,
+            Script.repeated("OPEN 0", 3) + ", CLOSE, OPEN 0, CLOSE, CLOSE, OPEN 0, OPEN 0, SAY");
         Check.same("no code", 0, yard.count(6));
         Script.says("all were opened", yard, 1);
         Check.same("a scope to end is open still", 3,
@@ -107,7 +108,8 @@ public final class TermsScopesEdgesTest {
         Script.says("a handler at place 1", first, 7, 15);
         Check.same("the second code comes to the root", 10, first.count(7));
         for (int kind = 0; kind <= 3; kind++) {
-            PhaserYard last = Script.ran(200, 2, "OPEN " + (60 + kind) + ", THROW 10, " + Script.repeated("SAY", 13) + ", ADD 1");
+            PhaserYard last = Script.ran(200, 2,
+                "OPEN " + (60 + kind) + ", THROW 10, " + Script.repeated("SAY", 13) + ", ADD 1");
             Check.same("a handler at place 15", 11, last.result());
             Script.says("and nowhere before", last);
         }
@@ -143,7 +145,8 @@ public final class TermsScopesEdgesTest {
         }
         PhaserYard one = Script.ran(200, 0, "OPEN 16, ASYNC 1, ASYNC 2, CLOSE, SAY", "THROW 99", "");
         Script.says("the least of one", one, 99);
-        PhaserYard own = Script.ran(200, 0, "OPEN 20, ASYNC 1, ASYNC 2, ASYNC 3, THROW 10, SAY", "CLOSE", "LEAVE 0", "THROW 10");
+        PhaserYard own = Script.ran(200, 0, "OPEN 20, ASYNC 1, ASYNC 2, ASYNC 3, THROW 10, SAY",
+            "CLOSE", "LEAVE 0", "THROW 10");
         Script.says("the codes of instructions are less than those of throw", own, 3);
     }
 

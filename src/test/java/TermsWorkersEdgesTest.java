@@ -71,7 +71,8 @@ public final class TermsWorkersEdgesTest {
     }
 
     private static void itsOwnComesBeforeTheft() {
-        PhaserYard yard = Script.begun(0, 2, 0, "ASYNC 1, ASYNC 2, ASYNC 2, GET 0", "ASYNC 2, ASYNC 2, GOTO 2", "GOTO 0");
+        PhaserYard yard = Script.begun(0, 2, 0, "ASYNC 1, ASYNC 2, ASYNC 2, GET 0",
+            "ASYNC 2, ASYNC 2, GOTO 2", "GOTO 0");
         yard.run(6);
         Check.same("worker 0 took its own last", 4, yard.count(20));
         Check.same("the first of its own stays", 2, yard.count(40));
