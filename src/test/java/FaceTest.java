@@ -7,9 +7,19 @@ import java.util.TreeSet;
 
 /** The class has the document's face and no other member that can be seen from outside. */
 public final class FaceTest {
+    private static final String ARGUMENT = "IllegalArgumentException";
+    private static final String STATE = "IllegalStateException";
+    private static final String INDEX = "IndexOutOfBoundsException";
     private static final Set<String> FACE = new TreeSet<>(Set.of(
-        "int body(int)", "int add(int, int, int)", "void begin(int, int, int, int)", "int run(int)",
-        "int result()", "int said(int)", "int task(int, int)", "int future(int)", "int count(int)"));
+        "int body(int) throws " + ARGUMENT,
+        "int add(int, int, int) throws " + ARGUMENT + ", " + STATE,
+        "void begin(int, int, int, int) throws " + ARGUMENT,
+        "int run(int) throws " + ARGUMENT + ", " + STATE + ", UnsupportedOperationException",
+        "int result() throws " + STATE + ", ArithmeticException",
+        "int said(int) throws " + INDEX,
+        "int task(int, int) throws " + ARGUMENT + ", " + INDEX,
+        "int future(int) throws " + ARGUMENT + ", " + STATE,
+        "int count(int) throws " + ARGUMENT));
 
     public static void main(String[] args) {
         Check.holds("the class is public and final", Modifier.isPublic(PhaserYard.class.getModifiers())
@@ -44,10 +54,15 @@ public final class FaceTest {
     }
 
     private static String textOf(Method method) {
+        return method.getReturnType() + " " + method.getName() + "(" + listOf(method.getParameterTypes()) + ") throws "
+            + listOf(method.getExceptionTypes());
+    }
+
+    private static String listOf(Class<?>[] types) {
         StringBuilder text = new StringBuilder();
-        for (Class<?> type : method.getParameterTypes()) {
-            text.append(text.length() > 0 ? ", " : "").append(type);
+        for (Class<?> type : types) {
+            text.append(text.length() > 0 ? ", " : "").append(type.getSimpleName());
         }
-        return method.getReturnType() + " " + method.getName() + "(" + text + ")";
+        return text.toString();
     }
 }
